@@ -109,7 +109,8 @@ public final class StepWorkbench {
         if (definitions.verdict(first) != 0 || definitions.verdict(second) != 0) {
             throw new IllegalArgumentException("a name that cannot be loaded");
         }
-        if (!explorer.explore(first, second)) {
+        explorer.begin();
+        if (!explorer.follow(first) || !explorer.follow(second)) {
             throw new IllegalStateException("too large");
         }
         graph.take(explorer);
@@ -239,13 +240,11 @@ public final class StepWorkbench {
 
         void clear() {
             length = 0;
-            at = 0;
         }
 
         void copy(Text other) {
             System.arraycopy(other.codes, 0, codes, 0, LINE_LIMIT);
             length = other.length;
-            at = 0;
         }
 
         void readFrom(int place) {
@@ -270,7 +269,7 @@ public final class StepWorkbench {
 
         /** How far the next character lies behind the first of a run of them, from 0; NONE when it is none of them. */
         int readOneOf(char first, int howMany) {
-            int offset = next() - first;
+            int offset = at < length ? codes[at] - first : NONE;
             if (offset < 0 || offset >= howMany) {
                 return NONE;
             }
@@ -313,7 +312,7 @@ public final class StepWorkbench {
         static final int SUM = 5;
         static final int PAIR = 6;
 
-        private static final int FIRST_ROOM = 128;
+        private static final int FIRST_ROOM = 64;
         // 20 states of 16 parts and 4 definitions of 18 have under 400 parts, each with 9 terms made for its moves.
         private static final int ROOM_LIMIT = 4096;
         private static final int BUCKETS = 64;
@@ -333,7 +332,11 @@ public final class StepWorkbench {
             Arrays.fill(newestInBucket, NONE);
         }
 
+        /** NONE for a part that is NONE, so that readers need not look at each part first. */
         int make(int ofKind, int leftPart, int rightPart) {
+            if (leftPart == NONE || rightPart == NONE) {
+                return NONE;
+            }
             int bucket = ((ofKind * 31 + leftPart) * 31 + rightPart) & (BUCKETS - 1);
             int term = newestInBucket[bucket];
             for (int i = 0; i < count && term != NONE; i++) {
@@ -355,10 +358,6 @@ public final class StepWorkbench {
             olderInBucket[term] = newestInBucket[bucket];
             newestInBucket[bucket] = term;
             return term;
-        }
-
-        int makeName(int name) {
-            return make(NAME, 0, name);
         }
 
         private boolean hasRoom() {
@@ -401,7 +400,7 @@ public final class StepWorkbench {
         private int readSum(int depth) {
             int term = readRow(depth);
             for (int i = 0; i < LINE_LIMIT && term != NONE && text.eat('+'); i++) {
-                term = join(Terms.SUM, term, readRow(depth));
+                term = terms.make(Terms.SUM, term, readRow(depth));
             }
             return term;
         }
@@ -409,7 +408,7 @@ public final class StepWorkbench {
         private int readRow(int depth) {
             int term = readStep(depth);
             for (int i = 0; i < LINE_LIMIT && term != NONE && text.eat('|'); i++) {
-                term = join(Terms.PAIR, term, readStep(depth));
+                term = terms.make(Terms.PAIR, term, readStep(depth));
             }
             return term;
         }
@@ -427,7 +426,7 @@ public final class StepWorkbench {
             int term = readPiece(depth);
             while (waitingCount > before) {
                 waitingCount--;
-                term = term == NONE ? NONE : terms.make(Terms.STEP, term, waiting[waitingCount]);
+                term = terms.make(Terms.STEP, term, waiting[waitingCount]);
             }
             return term;
         }
@@ -436,9 +435,9 @@ public final class StepWorkbench {
             int term = readAtom(depth);
             for (int i = 0; i < LINE_LIMIT && term != NONE; i++) {
                 if (text.eat('\\')) {
-                    term = join(Terms.HIDE, term, text.readLetter());
+                    term = terms.make(Terms.HIDE, term, text.readLetter());
                 } else if (text.eat('[')) {
-                    term = join(Terms.RENAME, term, readRenaming());
+                    term = terms.make(Terms.RENAME, term, readRenaming());
                 } else {
                     return term;
                 }
@@ -466,12 +465,7 @@ public final class StepWorkbench {
                 int term = depth < BRACKET_LIMIT ? readSum(depth + 1) : NONE;
                 return text.eat(')') ? term : NONE;
             }
-            int name = text.readName();
-            return name == NONE ? NONE : terms.makeName(name);
-        }
-
-        private int join(int kind, int left, int right) {
-            return left == NONE || right == NONE ? NONE : terms.make(kind, left, right);
+            return terms.make(Terms.NAME, 0, text.readName());
         }
 
         static int renaming(int from, int to) {
@@ -512,13 +506,14 @@ public final class StepWorkbench {
             gather(name, terms, term, true, false, 0);
         }
 
-        /** The name's term, built anew, as the terms of an earlier reading may be gone. */
-        int readAgain(int name, TermReader reader) {
-            if (!contains(defined, name)) {
-                return NONE;
-            }
+        boolean has(int name) {
+            return contains(defined, name);
+        }
+
+        /** The text to be read again, as the terms of an earlier reading are gone. */
+        Text textOf(int name) {
             texts[name].readFrom(BEHIND_EQUALS);
-            return reader.read(texts[name]);
+            return texts[name];
         }
 
         int verdict(int name) {
@@ -581,7 +576,7 @@ public final class StepWorkbench {
 
     /** Works out the moves of terms, of each term once; false answers mean that a limit was passed. */
     private static final class Mover {
-        private static final int FIRST_ROOM = 128;
+        private static final int FIRST_ROOM = 64;
         // Under 400 parts of states and definitions, each with at most 8 moves.
         private static final int ROOM_LIMIT = 4096;
         // A state is at most 16 deep, and each of 4 names leads on into a definition at most 10 deep.
@@ -768,7 +763,8 @@ public final class StepWorkbench {
         private final Definitions definitions;
         final int[] found = new int[STATE_LIMIT];
         int count;
-        int secondState;
+        int lastNameState;
+        private int goneThrough;
 
         Explorer(Terms terms, TermReader reader, Definitions definitions) {
             this.terms = terms;
@@ -777,22 +773,29 @@ public final class StepWorkbench {
             mover = new Mover(terms);
         }
 
-        boolean explore(int first, int second) {
+        void begin() {
             terms.clear();
             mover.clear();
             count = 0;
+            goneThrough = 0;
             for (int name = 0; name < NAME_COUNT; name++) {
-                mover.setBody(name, definitions.readAgain(name, reader));
+                mover.setBody(name, definitions.has(name) ? reader.read(definitions.textOf(name)) : NONE);
             }
-            if (!enter(terms.makeName(first)) || !goThrough(0)) {
+        }
+
+        /** Takes a name and all that it leads to among the states; false when that is too large. */
+        boolean follow(int name) {
+            int term = terms.make(Terms.NAME, 0, name);
+            if (!enter(term)) {
                 return false;
             }
-            int next = count;
-            int secondTerm = terms.makeName(second);
-            if (!enter(secondTerm) || !goThrough(next)) {
-                return false;
+            lastNameState = stateOf(term);
+            for (; goneThrough < count && goneThrough < STATE_LIMIT; goneThrough++) {
+                int next = found[goneThrough];
+                if (!mover.workOut(next, 0) || !enterTargets(next)) {
+                    return false;
+                }
             }
-            secondState = stateOf(secondTerm);
             return true;
         }
 
@@ -803,15 +806,6 @@ public final class StepWorkbench {
                 }
             }
             return NONE;
-        }
-
-        private boolean goThrough(int from) {
-            for (int s = from; s < count && s < STATE_LIMIT; s++) {
-                if (!mover.workOut(found[s], 0) || !enterTargets(found[s])) {
-                    return false;
-                }
-            }
-            return true;
         }
 
         private boolean enterTargets(int term) {
@@ -851,7 +845,7 @@ public final class StepWorkbench {
 
         void take(Explorer explorer) {
             count = explorer.count;
-            secondState = explorer.secondState;
+            secondState = explorer.lastNameState;
             Arrays.fill(after, 0);
             for (int s = 0; s < count; s++) {
                 takeState(explorer, s);
@@ -1087,9 +1081,9 @@ public final class StepWorkbench {
             count = 0;
         }
 
-        /** The mark is a part's variable or action. */
+        /** The mark is a part's variable or action; NONE for a part that is NONE, as with terms. */
         int add(int ofKind, int withMark, int leftPart, int rightPart) {
-            if (count >= LINE_LIMIT) {
+            if (leftPart == NONE || rightPart == NONE || count >= LINE_LIMIT) {
                 return NONE;
             }
             int part = count;
@@ -1225,10 +1219,9 @@ public final class StepWorkbench {
                 }
             }
             int part = readChoice(depth);
-            while (waitingCount > before) {
-                waitingCount--;
-                inForce &= ~(1 << waitingMarks[waitingCount]);
-                part = putBefore(part);
+            for (int i = waitingCount; i > before; i--) {
+                inForce &= ~(1 << waitingMarks[i - 1]);
+                part = putLastBefore(part);
             }
             return part;
         }
@@ -1244,13 +1237,13 @@ public final class StepWorkbench {
             }
             bound |= 1 << variable;
             inForce |= 1 << variable;
-            return await(kind, variable);
+            return keepWaiting(kind, variable);
         }
 
         private int readChoice(int depth) {
             int part = readPair(depth);
             for (int i = 0; i < LINE_LIMIT && part != NONE && text.eat('|'); i++) {
-                part = join(Formula.EITHER, part, readPair(depth));
+                part = formula.add(Formula.EITHER, 0, part, readPair(depth));
             }
             return part;
         }
@@ -1258,7 +1251,7 @@ public final class StepWorkbench {
         private int readPair(int depth) {
             int part = readItem(depth);
             for (int i = 0; i < LINE_LIMIT && part != NONE && text.eat('&'); i++) {
-                part = join(Formula.BOTH, part, readItem(depth));
+                part = formula.add(Formula.BOTH, 0, part, readItem(depth));
             }
             return part;
         }
@@ -1271,9 +1264,8 @@ public final class StepWorkbench {
                 }
             }
             int part = readCore(depth);
-            while (waitingCount > before) {
-                waitingCount--;
-                part = putBefore(part);
+            for (int i = waitingCount; i > before; i--) {
+                part = putLastBefore(part);
             }
             return part;
         }
@@ -1287,7 +1279,7 @@ public final class StepWorkbench {
             if (action == NONE || !text.eat(some ? '>' : ']')) {
                 return false;
             }
-            return await(some ? Formula.SOME_MOVE : Formula.EVERY_MOVE, action);
+            return keepWaiting(some ? Formula.SOME_MOVE : Formula.EVERY_MOVE, action);
         }
 
         private int readCore(int depth) {
@@ -1308,7 +1300,7 @@ public final class StepWorkbench {
             return formula.add(Formula.VARIABLE, variable, 0, 0);
         }
 
-        private boolean await(int kind, int mark) {
+        private boolean keepWaiting(int kind, int mark) {
             if (waitingCount >= LINE_LIMIT) {
                 return false;
             }
@@ -1318,15 +1310,9 @@ public final class StepWorkbench {
             return true;
         }
 
-        private int putBefore(int part) {
-            if (part == NONE) {
-                return NONE;
-            }
+        private int putLastBefore(int part) {
+            waitingCount--;
             return formula.add(waitingKinds[waitingCount], waitingMarks[waitingCount], part, 0);
-        }
-
-        private int join(int kind, int left, int right) {
-            return left == NONE || right == NONE ? NONE : formula.add(kind, 0, left, right);
         }
     }
 }

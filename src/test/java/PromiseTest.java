@@ -27,6 +27,7 @@ public final class PromiseTest {
         loadTooManyStates();
         loadTooLargeState();
         loadTooManyMoves();
+        loadWithMuchBetween();
         loadFailingChangesNothing();
         statesAndSecond();
         movesAndMove();
@@ -276,7 +277,8 @@ public final class PromiseTest {
                 "&1", "1&&1", "11", "()", "(1", "1)", "(((((1)))))", "<a>", "<a1", "a>1", "<>1", "<e>1", "<'t>1",
                 "<''a>1", "<'*>1", "[a>1", "<a]1", "[a]", "[**]1", "<a>mx.x", "1|mx.x", "mx.1|ny.y", "mx.mx.x",
                 "mx.nx.x", "(mx.x)|x", "(mx.x)|(nx.x)", "x|(mx.x)", "(mx.1)&(mx.1)", " 1", "1 ", "mx. x", "A", "<A>1",
-                "1+1", "mx.(ny.x)&y", "(1)(1)", "mx.x.1", "<a.1", "mw.1"}) {
+                "1+1", "mx.(ny.x)&y", "(1)(1)", "mx.x.1", "<a.1", "mw.1", "mx1",
+                "mx.ny1", "mx.ny.mx.1", "mx.ny.mz.nx.1", "(mx.x)&y", "mx.(ny.y)&y", "mx.2", "x", "(mx.1)&(ny.1)&x"}) {
             formula(w, ARGUMENT, text);
         }
         due("there is no formula", STATE, () -> w.holds(0));
@@ -316,6 +318,14 @@ public final class PromiseTest {
         checked(1, 0, "A=a.B", "B=b.C", "C=c.D");
         checked(0, 0, "A=a.B", "B=b.C", "C=c.D", "D=d.A");
         checked(1, 0, "A=A+B");
+        checked(1, 0, "A=a.B+a.C", "C=0");
+        checked(1, 0, "A=a.C+a.B", "C=0");
+        checked(2, 0, "A=A+B", "B=0");
+        checked(2, 0, "A=B+A", "B=0");
+        checked(3, 0, "A=a.(A|B)", "B=0");
+        checked(3, 0, "A=a.(B|A)", "B=0");
+        checked(3, 0, "A=a.A\\a+a.A");
+        checked(3, 0, "A=a.A+a.A\\a");
         checked(2, 0, "A=A");
         checked(2, 0, "A=a.0+A");
         checked(2, 0, "A=A|a.0");
@@ -349,6 +359,14 @@ public final class PromiseTest {
     private static void checkAfterDefining() {
         StepWorkbench w = with("A=a.A\\b", "B=A");
         due("3 first", 3, () -> w.check(1));
+        define(w, 0, "A=C");
+        due("1 then", 1, () -> w.check(0));
+        define(w, 0, "A=0");
+        due("an old name counts no more", 0, () -> w.check(0));
+        define(w, 0, "A=A");
+        due("2 then", 2, () -> w.check(0));
+        define(w, 0, "A=a.A");
+        due("an old open name counts no more", 0, () -> w.check(0));
         define(w, 0, "A=a.A");
         due("0 when mended", 0, () -> w.check(1));
         define(w, 0, "A=B");
@@ -405,8 +423,20 @@ public final class PromiseTest {
         loaded(STATE, 0, 0, a, b, "C='d.0+t.0");
         // A term of whose moves those of a state are made counts, too; one that is not come to does not.
         loaded(STATE, 3, 3, a, b, "C='d.0+t.0", "D=A\\a\\b");
+        loaded(STATE, 3, 3, a, b, "C='d.0+t.0", "D=0|(A\\a)\\b");
+        loaded(STATE, 3, 3, a, b, "C='d.0+t.0", "D=A\\a\\b|0");
+        loaded(STATE, 3, 3, a, b, "C='d.0+t.0", "D=(0+A)[a/b][b/c]");
         loaded(STATE, 3, 3, a, b, "C='d.0+t.0", "D=b.A");
         loaded(1, 3, 3, a, b, "C='d.0+t.0", "D=(b.A)\\b");
+    }
+
+    /** Loadings that work out far more terms and moves than their states have. */
+    private static void loadWithMuchBetween() {
+        loaded(20, 0, 1, "A=d.0+(D|D)\\a+c.c.0", "B='d.a.B", "C=D[a/d]", "D=c.0|'a.0|d.0");
+        loaded(16, 0, 1, "A=(C|B)\\a", "B=(C|C)\\b+'a.B", "C=D[b/a]", "D=b.0+a.D+t.D");
+        loaded(1, 0, 0, "A=B|B|B|B|B|B|B|B|B", "B=C|C|C|C|C|C|C|C|C", "C=D|D|D|D|D|D|D|D|D", "D=0|0|0|0|0|0|0|0|0");
+        loaded(1, 0, 0, "A=B\\a\\a\\a\\a\\a\\a\\a\\a", "B=C\\a\\a\\a\\a\\a\\a\\a\\a",
+                "C=D\\a\\a\\a\\a\\a\\a\\a\\a", "D=0\\a\\a\\a\\a\\a\\a\\a\\a");
     }
 
     private static void loadFailingChangesNothing() {
@@ -476,6 +506,11 @@ public final class PromiseTest {
         graph("1>1,1>2;1>3;1>3;;", 0, 0, "A=a.0|a.0");
         graph("1>1,6>2;6>3;1>3;;", 0, 0, "A=a.0|'b.0");
         graph("0>1;;", 0, 0, "A=(a.0|'a.0)\\a");
+        graph("4>1,8>2,0>3;8>3;4>3;;", 0, 0, "A=d.0|'d.0");
+        graph("8>1,4>2,0>3;4>3;8>3;;", 0, 0, "A='d.0|d.0");
+        graph("1>1;;", 0, 0, "A=(a.0+'d.0+d.0)\\d");
+        graph("1>1,5>1;;", 0, 0, "A=(d.0+'d.0)[a/d]");
+        graph("4>1,8>1;;", 0, 0, "A=(a.0+'a.0)[d/a]");
         graph("3>1;;", 0, 0, "A=(c.0+'b.0+b.0)\\b");
         graph("3>1,7>1;;", 0, 0, "A=(a.0+'a.0)[c/a]");
         graph("1>1;;", 0, 0, "A=(a.0)[c/b]");
@@ -529,6 +564,10 @@ public final class PromiseTest {
         parted(3, 5, false, "A='a.b.c.0", "B='a.b.d.0");
         parted(8, 1, false, "A=a.a.a.a.a.a.a.a.0", "B=a.a.a.a.a.a.a.0");
         parted(1, 0, false, "A=a.0", "B=t.a.0");
+        StepWorkbench back = with("A=b.B", "B=a.A+a.C", "C=c.0", "D=a.C");
+        due("load", 5, () -> back.load(0, 3));
+        due("one more a, back to the first state", 2, () -> back.level(1, back.second(), false));
+        due("told by a", 1, () -> back.tells(1, back.second(), false));
         StepWorkbench w = with("A=a.0");
         due("load", 2, () -> w.load(0, 0));
         due("a state and itself", 0, () -> w.level(1, 1, false));
@@ -568,9 +607,20 @@ public final class PromiseTest {
         due("leader of C", 0, () -> w.leader(0, false));
         due("no state below", ELEMENT, () -> w.leader(-1, true));
         due("no state above", ELEMENT, () -> w.leader(3, false));
-        due("the classes after another load", 1, () -> w.load(1, 1));
+        due("weakly all are alike", 1, () -> w.classes(true));
+        due("another load", 1, () -> w.load(1, 1));
         due("open classes", 1, () -> w.classes(false));
         due("weak classes", 1, () -> w.classes(true));
+        define(w, 2, "C=a.0");
+        due("another load", 3, () -> w.load(1, 2));
+        due("weak classes asked anew", 3, () -> w.classes(true));
+        due("open classes asked anew", 3, () -> w.classes(false));
+        due("levels asked anew", 1, () -> w.level(0, 2, false));
+        define(w, 2, "C=a.a.C");
+        due("another load", 3, () -> w.load(1, 2));
+        due("no level of old stays", 0, () -> w.level(0, 2, false));
+        due("no weak level of old stays", 0, () -> w.level(0, 2, true));
+        due("all are alike", 0, () -> w.leader(2, true));
     }
 
     // Promise 16
@@ -704,5 +754,14 @@ public final class PromiseTest {
         paired(20, 0, "mx.0|1|<*>x", "A=a.b.0");
         paired(8, 0, "nx.my.<b>x", "A=b.B", "B=b.A");
         paired(4, 0, "(mx.x)&1", "A=0");
+        StepWorkbench twice = with("A=a.b.0");
+        formula(twice, 6, "mx.<a>x|<b>1");
+        due("load", 3, () -> twice.load(0, 0));
+        due("from A: m | <a> <b> at A and b.0, x at b.0, 1 at 0", 10, () -> twice.pairs(0));
+        due("from 0: m | <a> <b>", 4, () -> twice.pairs(2));
+        due("from b.0: m | <a> <b>, 1 at 0", 5, () -> twice.pairs(1));
+        due("from A again", 10, () -> twice.pairs(0));
+        // x is met at B alone and y at A alone, the other five parts at both.
+        paired(12, 0, "nx.my.<a>x|<b>y", "A=a.B", "B=b.A");
     }
 }
