@@ -603,6 +603,10 @@ public final class AskBoundaryTest {
             b.pairs(s).due(3 * (20 - s) - 1);
             b.formula("nx.my.nz.[*]x").due(5);
             b.pairs(s).due(5 * (20 - s) - 1);
+            b.formula("mx.x|<a>x").due(5);
+            b.pairs(s).due(5 * (20 - s) - 1);
+            b.formula("mx.<a>x|x").due(5);
+            b.pairs(s).due(5 * (20 - s) - 1);
         }
         Bench circle = circle();
         circle.formula("nx.my.nz.<a>x|<t>y&z").due(10);
@@ -632,6 +636,13 @@ public final class AskBoundaryTest {
         b.tells(0, 1, true).due(2);
         b.tells(0, 1, false).due(0);
         b.stuck().due(-1);
+        b.define("A=b.b.A").due(0);
+        b.load(0, 0).due(2);
+        b.level(0, 1, false).due(0);
+        b.level(1, 0, true).due(0);
+        b.tells(0, 1, false).due(Bench.ELEMENT);
+        b.tells(1, 0, true).due(Bench.ELEMENT);
+        b.leader(1, false).due(0);
         b.load(2, 2).due(1);
         b.classes(false).due(1);
         b.level(0, 0, true).due(0);

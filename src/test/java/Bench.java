@@ -48,7 +48,7 @@ final class Bench {
         }
     }
 
-    /** The sentence of the document that the answers asked from here on are due by. */
+    /** The sentence of the document, or what follows from it, that the answers asked from here on are due by. */
     static void says(String ofTheDocument) {
         sentence = ofTheDocument;
     }

@@ -29,6 +29,7 @@ public final class LineBoundaryTest {
         variablesBoundTwice();
         bindersWhereTheyStand();
         lineEmptyAfterFormula();
+        refusedLinesLeaveNothing();
         Bench.finish();
     }
 
@@ -227,6 +228,7 @@ public final class LineBoundaryTest {
             defines(deep <= 3, "A=(" + inBrackets("0", deep) + "+0)", "A=(0|" + inBrackets("0", deep) + ")",
                     "A=(a." + inBrackets("0", deep) + ")", "A=(" + inBrackets("0", deep) + "\\a)");
         }
+        defines(false, "A=((((()))))", "A=0+((((())))", "A=((((()))))+0", "A=((((", "A=(((((");
         Bench.says("Terms: brackets that do not lie in one another are not counted together");
         defines(true, "A=((0)|(0)|(0)|(0))", "A=((((0))))|(((0)))", "A=(((0)))+((((0))))", "A=((((0)|(0)))|(0))",
                 "A=((((0[a/b]))))", "A=0[a/b][a/b][a/b]");
@@ -444,6 +446,7 @@ public final class LineBoundaryTest {
         }
         parts(3, "(0|" + inBrackets("1", 3) + ")", "(<a>" + inBrackets("<b>1", 3) + ")");
         none("(0|" + inBrackets("1", 4) + ")", "(<a>" + inBrackets("<b>1", 4) + ")");
+        none("((((()))))", "1|((((()))))", "((((()))))|1", "1&((((()))))", "((((", "(((((");
         parts(3, "((mx.(([a]x))))");
         none("((mx.((([a]x)))))");
         Bench.says("Terms: brackets that do not lie in one another are not counted together");
@@ -474,7 +477,8 @@ public final class LineBoundaryTest {
         parts(6, "mx.<a>(ny.x)|x", "ny.(mz.z)&[*]y");
         none("x", "y", "z", "<a>x", "1|x", "(x)", "mx.y", "mx.z", "ny.x", "ny.z", "mz.y", "x|(mx.1)", "x&(mx.x)",
                 "(mx.1)|x", "(mx.x)&x", "(mx.x)|<a>x", "mx.(ny.1)|y", "mx.(ny.y)&y", "mx.(ny.y)|[a]y", "mx.y|(ny.y)",
-                "(mx.1)|(ny.x)", "(mx.(ny.1)|y)", "((mx.x))&x", "w", "mw.w");
+                "(mx.1)|(ny.x)", "(mx.(ny.1)|y)", "((mx.x))&x", "w", "mw.w", "(mx.1)|y", "(mx.1)&z", "(nz.z)&x",
+                "mx.(ny.1)&z");
     }
 
     private static void variablesBoundTwice() {
@@ -517,5 +521,26 @@ public final class LineBoundaryTest {
         }
         b.formula("<b>1").due(2);
         b.having().due("010");
+    }
+
+    private static void refusedLinesLeaveNothing() {
+        Bench.says("Terms: A call that throws changes nothing, but where it is said");
+        Bench b = new Bench();
+        for (int i = 0; i < 8; i++) {
+            b.define("A=a.a.a.a.a.a.a.a.a").due(Bench.ARGUMENT);
+            b.define("A=((((a.b.c.e").due(Bench.ARGUMENT);
+            b.formula("<a><a><a><a><a><e>1").due(Bench.ARGUMENT);
+            b.formula("mx.ny.mz.((((<a><a>[").due(Bench.ARGUMENT);
+            b.formula("mx.ny.mz.m").due(Bench.ARGUMENT);
+        }
+        b.formula("mx.m").due(Bench.ARGUMENT);
+        b.formula("x").due(Bench.ARGUMENT);
+        b.formula("ny.(nz.m").due(Bench.ARGUMENT);
+        b.formula("y|z").due(Bench.ARGUMENT);
+        b.formula("mx.ny.mz.x&y&z").due(8);
+        b.formula("<a><a><a><a><a><a>1").due(7);
+        b.define("A=((((a.b.c.0))))").due(0);
+        b.define(FULL).due(0);
+        b.load(0, 0).due(9);
     }
 }

@@ -18,6 +18,7 @@ public final class LoadBoundaryTest {
         checkComesToItself();
         checkWithin();
         checkFirstOfThese();
+        checkAfterDefiningAnew();
         movesOfSimpleTerms();
         movesSideBySide();
         movesHidden();
@@ -35,6 +36,7 @@ public final class LoadBoundaryTest {
         movesOfNoState();
         moveOfNoMove();
         sizeOfNoState();
+        loadWithMuchBetween();
         lastOfManyCalls();
         Bench.finish();
     }
@@ -46,8 +48,34 @@ public final class LoadBoundaryTest {
         return all;
     }
 
+    /** What is due must not hang on which name is which, so each of the 24 ways to give the names is asked. */
     private static void checked(int want, int name, String... definitions) {
-        Bench.with(definitions).check(name).due(want);
+        for (int way = 0; way < 24; way++) {
+            String names = namesIn(way);
+            String[] renamed = new String[definitions.length];
+            for (int i = 0; i < definitions.length; i++) {
+                renamed[i] = renamed(definitions[i], names);
+            }
+            Bench.with(renamed).check(names.charAt(name) - 'A').due(want);
+        }
+    }
+
+    private static String namesIn(int way) {
+        StringBuilder left = new StringBuilder("ABCD");
+        StringBuilder names = new StringBuilder();
+        for (int rest = way, among = 4; among > 0; rest /= among, among--) {
+            names.append(left.charAt(rest % among));
+            left.deleteCharAt(rest % among);
+        }
+        return names.toString();
+    }
+
+    private static String renamed(String text, String names) {
+        StringBuilder all = new StringBuilder();
+        for (char c : text.toCharArray()) {
+            all.append(c >= 'A' && c <= 'D' ? names.charAt(c - 'A') : c);
+        }
+        return all.toString();
     }
 
     private static void checkOfNumbers() {
@@ -77,6 +105,9 @@ public final class LoadBoundaryTest {
         checked(0, 0, "A=a.B", "B=b.C", "C=c.D", "D=0");
         checked(1, 0, "A=a.D", "D=b.C", "C=c.B");
         checked(0, 0, "A=a.D", "D=b.C", "C=c.B", "B=b.D");
+        checked(1, 0, "A=a.B+a.C", "B=0");
+        checked(1, 0, "A=a.B+a.C", "C=0");
+        checked(0, 0, "A=a.B+a.C", "B=0", "C=0");
         checked(0, 3, "D=d.C", "C=c.0", "B=b.A");
         checked(1, 1, "D=d.C", "C=c.0", "B=b.A");
     }
@@ -156,6 +187,19 @@ public final class LoadBoundaryTest {
         checked(3, 0, "A=a.A|b.A");
         checked(1, 0, "A=A|a.A|C");
         checked(0, 0, "A=a.A+b.A");
+    }
+
+    private static void checkAfterDefiningAnew() {
+        Bench.says("Promise 3: The line defines a name; Promise 5: Checking a name");
+        Bench b = new Bench();
+        String[] texts = {"A=a.(A|B)", "A=0", "A=A+B", "A=a.A", "A=B", "A=a.A\\a", "A=a.0", "A=A", "A=a.A[a/b]", "A=a.A"};
+        int[] due = {1, 0, 1, 0, 1, 3, 0, 2, 3, 0};
+        for (int i = 0; i < texts.length; i++) {
+            b.define(texts[i]).due(0);
+            b.check(0).due(due[i]);
+            b.define("A=(").due(Bench.ARGUMENT);
+            b.check(0).due(due[i]);
+        }
     }
 
     private static void graph(String want, String... definitions) {
@@ -540,6 +584,15 @@ public final class LoadBoundaryTest {
         twenty.size(8).due(1);
         twenty.size(18).due(1);
         twenty.size(19).due(Bench.ELEMENT);
+    }
+
+    private static void loadWithMuchBetween() {
+        Bench.says("Terms: of P | Q, P \\ x and P[y/x] the moves, however many terms they are made of");
+        loaded(1, 0, 0, "A=B|B|B|B|B|B|B|B|B", "B=C|C|C|C|C|C|C|C|C", "C=D|D|D|D|D|D|D|D|D", "D=0|0|0|0|0|0|0|0|0");
+        String hidden = "\\a".repeat(8);
+        loaded(1, 0, 0, "A=B" + hidden, "B=C" + hidden, "C=D" + hidden, "D=0" + hidden);
+        // Twenty states, and many terms between.
+        loaded(20, 0, 1, "A=d.0+(D|D)\\a+c.c.0", "B='d.a.B", "C=D[a/d]", "D=c.0|'a.0|d.0");
     }
 
     private static void lastOfManyCalls() {
