@@ -563,6 +563,14 @@ public final class AskBoundaryTest {
         paired(3, 0, "0&1", "A=a.0");
         paired(5, 0, "0&0&0", "A=a.0");
         paired(19, 1, "0|1&0|1&0|1&0|1&0|1", "A=a.0");
+        // They lead to no other state, whatever moves there are.
+        for (String k : ACTIONS) {
+            if (!k.equals("*")) {
+                paired(3, 0, "0|1", "A=" + k + ".0");
+                paired(3, 0, "0&1", "A=" + k + ".0");
+                paired(4, 0, "nz.z|0", "A=" + k + ".0");
+            }
+        }
         Bench.says("Promise 18: from <k>P or [k]P to P and each state that a move k of the state leads to");
         for (int k = 0; k < 9; k++) {
             for (int j = 0; j < 10; j++) {
@@ -587,6 +595,7 @@ public final class AskBoundaryTest {
         paired(2, 1, "mx.<a>x", "A=a.0");
         paired(3, 0, "nx.[a]x", "A=a.A");
         paired(6, 0, "nx.[a]x", "A=a.B", "B=a.A");
+        paired(6, 1, "nx.[a]x", "A=a.B", "B=a.A");
         // y leads back to the inner one alone: m at A, n and <b> at all three states, y at the last two.
         paired(9, 0, "mx.ny.<b>y", "A=b.B", "B=b.0");
         paired(11, 0, "mx.ny.<b>x", "A=b.B", "B=b.0");
@@ -617,6 +626,10 @@ public final class AskBoundaryTest {
         circle.pairs(19).due(19);
         circle.formula("nx.my.nz.<*>x|<*>y&z").due(10);
         circle.pairs(7).due(10 * 20);
+        circle.formula("mx.<*>x").due(3);
+        for (int s = 0; s < 20; s++) {
+            circle.pairs(s).due(3 * 20);
+        }
     }
 
     private static void askedAnew() {
