@@ -6,8 +6,8 @@ import java.util.Map;
 import java.util.Set;
 
 /**
- * Every short line over the characters of the grammar: those that the document's grammar makes, made here from it piece
- * by piece with the size of the term or the number of parts, are taken, and no other ones.
+ * Every short line over some of the grammar's characters, such as stand for all of them: those that the grammar makes,
+ * made here from it piece by piece with the size of the term or the number of parts, are taken, and no other ones.
  */
 public final class ShortLinesTest {
     private static final int LONGEST = Integer.getInteger("longest", 5);
